@@ -101,6 +101,8 @@ public final class BatchTest {
     Due.due("latest", x.latest(2, 5), 2);
     Due.due("latest", x.latest(2, 6), 1);
     Due.due("latest", x.latest(2, 7), 4);
+    Due.event(x, 2, 0, 5, 0);
+    Due.due("latest", x.latest(2, 5), 5);
     Due.due("latest", x.latest(4, 5), 3);
     Due.due("no such key", x.latest(2, 8), EventLedger.NONE);
     Due.due("of another stream alone", x.latest(4, 6), EventLedger.NONE);
@@ -108,5 +110,7 @@ public final class BatchTest {
     Due.due("another stream", x.latest(-1, 5), EventLedger.REFUSED);
     x.crash(0);
     Due.due("gone", x.latest(2, 5), EventLedger.NONE);
+    Due.event(x, 2, 0, 5, 0);
+    Due.due("the very first", x.latest(2, 5), 0);
   }
 }

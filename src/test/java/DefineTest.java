@@ -97,6 +97,11 @@ public final class DefineTest {
 
   private static void headings() {
     bad("|all; on any: a = 1;");
+    bad("|on any: a = 1;");
+    bad("by |on any: a = 1;");
+    bad("by |streams; on any: a = 1;");
+    bad("by |bey; on any: a = 1;");
+    bad("by key; |in any: a = 1;");
     bad("by |value; on any: a = 1;");
     bad("by |place; on any: a = 1;");
     bad("by |a; on any: a = 1;");

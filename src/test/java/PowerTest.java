@@ -5,6 +5,7 @@ public final class PowerTest {
     cutAtEveryByte();
     whatIsLeftIsKept();
     foldsComeBack();
+    everyFoldAndReader();
     foldsWithoutKeep();
     readersComeBack();
     readersWithoutKeep();
@@ -103,6 +104,22 @@ public final class PowerTest {
     }
     Due.due("its program", x.run(2, 1), 1);
     Due.due("its program", x.cell(2, 2, 0), 3);
+  }
+
+  private static void everyFoldAndReader() {
+    EventLedger x = new EventLedger();
+    batch(x, 0, 6);
+    for (int f = 0; f < 6; f++) {
+      Due.program(x, f, "by all; on any: a = a + 1;");
+      Due.due("run", x.run(f, f), f);
+    }
+    for (int r = 0; r < 8; r++) x.subscribe(r, 255, 255, r % 6);
+    x.keep();
+    for (int f = 0; f < 6; f++) x.run(f, 600);
+    for (int r = 0; r < 8; r++) x.take(r);
+    x.crash(0);
+    for (int f = 0; f < 6; f++) Due.due("place", x.fold(f, 0), f);
+    for (int r = 0; r < 8; r++) Due.due("next", x.reader(r, 0), r % 6);
   }
 
   private static void foldsWithoutKeep() {

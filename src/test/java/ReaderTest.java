@@ -154,6 +154,10 @@ public final class ReaderTest {
     Due.due("no event", x.tell(0, Integer.MAX_VALUE, true), EventLedger.NONE);
     Due.due("no event", x.tell(0, Integer.MIN_VALUE, true), EventLedger.NONE);
     Due.due("parked is not given", x.take(0), EventLedger.NONE);
+    Due.event(x, 0, 0, 0, 0);
+    Due.due("a new one", x.take(0), 6);
+    Due.due("back", x.tell(0, 6, false), 2);
+    Due.due("back, not parked", x.take(0), 6);
   }
 
   private static void wrongReaders() {
