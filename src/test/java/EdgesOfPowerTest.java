@@ -28,7 +28,11 @@ public final class EdgesOfPowerTest {
     Due.sentence("Promise 6", "Events, folds and readers are kept as they are: how many events there are.");
     EventLedger x = new EventLedger();
     Due.due("none", x.keep(), 0);
-    Due.batch(x, 0, 6);
+    x.stage(0, 0, 0);
+    Due.due("without the batch that is made up", x.keep(), 0);
+    Due.due("which stays", x.stage(1, 1, 1), 2);
+    for (int i = 2; i < 6; i++) x.stage(i, i, i);
+    Due.due("append", x.append(0, 0), 0);
     Due.batch(x, 1, 1);
     for (int f = 0; f < 6; f++) {
       Due.program(x, f, COUNTING);
